@@ -2311,9 +2311,8 @@ public final class Sheetengine {
             int height = 0;
             for (int k = 0; k < reader.orderMany; k++) {
                 int item = reader.order[k];
-                boolean isWord = Token.kindOf(item) == Token.OF_WORD;
-                int word = isWord ? Token.loadOf(item) : NONE;
-                int base = isWord ? height - Reader.operandsOf(word) : height;
+                int word = Token.kindOf(item) == Token.OF_WORD ? Token.loadOf(item) : NONE;
+                int base = word == NONE ? height : height - Reader.operandsOf(word);
                 if (base < 0 || base + 2 >= stack.length) {
                     break;
                 }
@@ -2364,7 +2363,6 @@ public final class Sheetengine {
                         break;
                     default:
                         stack[base].setTruth(stack[base].kind == FAULT);
-                        break;
                 }
             }
             stack[0].countEmptyAsZero();
@@ -2857,15 +2855,7 @@ public final class Sheetengine {
         }
 
         void writeSorted(Scribe scribe, boolean isFalling) {
-            for (int k = 1; k < many; k++) {
-                int row = order[k];
-                int at = k;
-                while (at > 0 && isAhead(row, order[at - 1], isFalling)) {
-                    order[at] = order[at - 1];
-                    at--;
-                }
-                order[at] = row;
-            }
+            arrange(false, isFalling);
             for (int k = 0; k < many; k++) {
                 writeRow(scribe, order[k], k == 0);
             }
@@ -2885,7 +2875,7 @@ public final class Sheetengine {
 
         void writeGrouped(Scribe scribe, Sheets sheets, int other) {
             writeKeys();
-            sortByKeys();
+            arrange(true, false);
             for (int from = 0; from < many; from++) {
                 if (from == 0 || compareKeys(order[from], order[from - 1]) != 0) {
                     if (from > 0) {
@@ -2912,12 +2902,26 @@ public final class Sheetengine {
             scribe.page.append(firstRow + row);
         }
 
-        private boolean isAhead(int row, int other, boolean isFalling) {
-            int result = compareRows(gathered[row], gathered[other]);
-            return isFalling ? result > 0 : result < 0;
+        /** Puts the rows in order; those that are as good as each other stay as they stand. */
+        private void arrange(boolean isByKeys, boolean isFalling) {
+            int turned = isFalling ? -1 : 1;
+            for (int k = 1; k < many; k++) {
+                int row = order[k];
+                int at = k;
+                while (at > 0 && compare(row, order[at - 1], isByKeys) * turned < 0) {
+                    order[at] = order[at - 1];
+                    at--;
+                }
+                order[at] = row;
+            }
         }
 
-        private int compareRows(Value one, Value two) {
+        private int compare(int row, int other, boolean isByKeys) {
+            if (isByKeys) {
+                return compareKeys(row, other);
+            }
+            Value one = gathered[row];
+            Value two = gathered[other];
             if (one.kind != two.kind) {
                 return Integer.compare(rank(one.kind), rank(two.kind));
             }
@@ -2952,18 +2956,6 @@ public final class Sheetengine {
                 }
                 keys.writeValue(gathered[k]);
                 keyFrom[k + 1] = keys.page.length();
-            }
-        }
-
-        private void sortByKeys() {
-            for (int k = 1; k < many; k++) {
-                int row = order[k];
-                int at = k;
-                while (at > 0 && compareKeys(row, order[at - 1]) < 0) {
-                    order[at] = order[at - 1];
-                    at--;
-                }
-                order[at] = row;
             }
         }
 
