@@ -160,7 +160,6 @@ public final class Sheetengine {
     }
 
     public int fill(int from, int one, int other) throws IllegalArgumentException {
-        checkPlace(from);
         checkCorners(one, other);
         checkCorners(from, one);
         int first = firstCorner(one, other);

@@ -151,6 +151,14 @@ public final class ChangesTest {
         Check.badState("the exception goes ahead of -9", () -> x.number(0, 1, 1));
         Check.due("number where one is", x.number(240, 2, 1), 0);
         Check.due("fill beyond 60", x.fill(240, 240, 300), -9);
+        Check.due("fill where cells are", x.fill(240, 241, 247), 7);
+        Check.due("fill of an empty place", x.fill(0, 0, 239), 239);
+        x.undo();
+        x.number(248, 1, 1);
+        Check.due("going on where cells are", x.goOn(240, true, 5), "-4");
+        x.undo();
+        x.undo();
+        x.undo();
         Check.due("going on beyond 60", x.goOn(240 + 5 * 8, true, 2), "-9");
         Check.due("what if beyond 60", x.whatIf(7, 7, 3, 2, 3), "3 5 7");
         Check.due("cells", x.house(0), 60);

@@ -141,7 +141,9 @@ public final class FuzzTest {
 
     private void call() {
         int k = below(100);
-        if (temper == 6 && k < 60) {
+        if (below(25) == 0) {
+            wild();
+        } else if (temper == 6 && k < 60) {
             climb();
         } else if (k < 30) {
             enter();
@@ -153,6 +155,51 @@ public final class FuzzTest {
             steps();
         } else {
             ask();
+        }
+    }
+
+    private int strange() {
+        int[] strange = {Integer.MIN_VALUE, Integer.MIN_VALUE + 1, -1000000, -999999, -10000, -9999, -10, -9, -2, -1, 0, 1, 2, 3,
+            4, 5, 6, 7, 8, 9, 10, 28, 29, 30, 99, 100, 239, 240, 479, 480, 481, 9999, 10000, 999, 1000, 999999, 1000000,
+            1 << 29, 1 << 30, Integer.MAX_VALUE - 1, Integer.MAX_VALUE};
+        return below(2) == 0 ? strange[below(strange.length)] : place();
+    }
+
+    /** Any call with any numbers. */
+    private void wild() {
+        int a = strange();
+        int b = strange();
+        int c = strange();
+        int d = strange();
+        int e = strange();
+        boolean is = below(2) == 0;
+        String told = "(" + a + ", " + b + ", " + c + ", " + d + ", " + e + ", " + is + ")";
+        switch (below(25)) {
+            case 0 -> same("token" + told, () -> x.token(a, b, c, d), () -> m.token(a, b, c, d));
+            case 1 -> same("rub" + told, () -> x.rub(a), () -> m.rub(a));
+            case 2 -> same("enter" + told, () -> x.enter(a), () -> m.enter(a));
+            case 3 -> same("number" + told, () -> x.number(a, b, c), () -> m.number(a, b, c));
+            case 4 -> same("text" + told, () -> x.text(a, b), () -> m.text(a, b));
+            case 5 -> same("truth" + told, () -> x.truth(a, is), () -> m.truth(a, is));
+            case 6 -> same("clear" + told, () -> x.clear(a), () -> m.clear(a));
+            case 7 -> same("fill" + told, () -> x.fill(a, b, c), () -> m.fill(a, b, c));
+            case 8 -> same("goOn" + told, () -> x.goOn(a, is, b), () -> m.goOn(a, is, b));
+            case 9 -> same("name" + told, () -> x.name(a, b, c), () -> m.name(a, b, c));
+            case 10 -> same("putIn" + told, () -> x.putIn(a, is, b), () -> m.putIn(a, is, b));
+            case 11 -> same("takeOut" + told, () -> x.takeOut(a, is, b), () -> m.takeOut(a, is, b));
+            case 12 -> same("guard" + told, () -> x.guard(a, is), () -> m.guard(a, is));
+            case 13 -> same("bound" + told, () -> x.bound(a, b, c), () -> m.bound(a, b, c));
+            case 14 -> same("form" + told, () -> x.form(a, b), () -> m.form(a, b));
+            case 15 -> same("goal" + told, () -> x.goal(a, b, c, d), () -> m.goal(a, b, c, d));
+            case 16 -> same("shown" + told, () -> x.shown(a), () -> m.shown(a));
+            case 17 -> same("ofPlace" + told, () -> x.ofPlace(a, b), () -> m.ofPlace(a, b));
+            case 18 -> same("reads" + told, () -> x.reads(a, is), () -> m.reads(a, is));
+            case 19 -> same("why" + told, () -> x.why(a), () -> m.why(a));
+            case 20 -> same("sorted" + told, () -> x.sorted(a, b, c, is), () -> m.sorted(a, b, c, is));
+            case 21 -> same("filtered" + told, () -> x.filtered(a, b, c, d, e), () -> m.filtered(a, b, c, d, e));
+            case 22 -> same("grouped" + told, () -> x.grouped(a, b, c, d), () -> m.grouped(a, b, c, d));
+            case 23 -> same("whatIf" + told, () -> x.whatIf(a, b, c, d, e), () -> m.whatIf(a, b, c, d, e));
+            default -> same("house" + told, () -> x.house(a), () -> m.house(a));
         }
     }
 

@@ -81,6 +81,7 @@ public final class RowsTest {
                 "#kind:0 #zero:9 -:7 -2:0 3/2:1 false:0 true:0 w10:5 w2:0");
         Check.due("by a column, that itself", x.grouped(Check.at("a9"), Check.at("a12"), 1, 1), "#kind:0 3/2:3/2 w10:0");
         Check.due("empty ones", x.grouped(Check.at("a0"), Check.at("a5"), 7, 3), "-:43/2");
+        Check.due("sums of the first column", x.grouped(0, 0, 7, 0), "-:0");
         Check.due("one row", x.grouped(Check.at("a0"), Check.at("a0"), 1, 3), "-:0");
         Check.enter(x, "1:c4", "c0&c1");
         x.text(Check.at("1:c5"), 2);

@@ -115,6 +115,18 @@ public final class StepsTest {
         x.name(3, Check.at("1:b3"), Check.at("1:h5"));
         refusesIn("a name to the last column", x, 0, -9);
         x = new Sheetengine();
+        x.name(0, Check.at("1:b29"), Check.at("1:b29"));
+        refusesIn("the first name in the last row", x, -9, 0);
+        x.name(0, -1, 0);
+        refusesIn("a name that is told no more", x, 0, 0);
+        x = new Sheetengine();
+        Check.enter(x, "a0", "1:b29");
+        x.clear(0);
+        refusesIn("a formula that was cleared", x, 0, 0);
+        Check.enter(x, "a0", "-1:b29");
+        Check.enter(x, "a0", "5");
+        refusesIn("a formula that was written over", x, 0, 0);
+        x = new Sheetengine();
         Check.enter(x, "a0", "1:b29");
         refusesIn("a place in the last row", x, -9, 0);
         x = new Sheetengine();
@@ -216,8 +228,13 @@ public final class StepsTest {
         Check.badArgument("guard(-1)", () -> x.guard(-1, true));
         Check.badArgument("guard(480)", () -> x.guard(480, true));
         Check.enter(x, "a0", "1");
+        Check.enter(x, "b0", "a0");
         x.guard(479, true);
         Check.due("none is reckoned", x.reckoned(), "");
+        Check.due("what reads what stays", x.reads(1, false) + x.ofPlace(0, 6) + x.ofPlace(1, 2), "011");
+        x.guard(0, true);
+        Check.due("a guard in the first place", x.takeOut(0, false, 0) + x.takeOut(0, true, 0), -18);
+        x.guard(0, false);
         Check.due("house(6)", x.house(6), 1);
     }
 

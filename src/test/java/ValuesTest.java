@@ -259,6 +259,7 @@ public final class ValuesTest {
         is("look(w3,a10..c15,2)", "30");
         is("look(w3,a10..c15,1)", "w3");
         is("look(w3,a10..c15,3)", "0");
+        is("look(w3,a10..c15,3)&w1", "0w1");
         is("look(1/2,a10..c15,3)", "w11");
         is("look(1/2,a10..c15,2)", "0");
         is("look(0,a10..c15,2)", "34");
@@ -282,6 +283,8 @@ public final class ValuesTest {
         is("look(1+w1,n0,1/0)", "#kind");
         is("look(1,n0,1+w1)", "#name");
         is("look(1,a10..c15,1+w1)", "#kind");
+        is("look(w3,a10..c15,16*8192*8192+1)", "#place");
+        is("look(w3,a10..c15,1/(16*8192*8192+1))", "#place");
         is("look(9999*9999*9999*9999,a10..c15,9999*9999*9999)", "#place");
     }
 
