@@ -705,27 +705,25 @@ public final class Sheetengine {
         now.fetch(place, one);
         scribe.writeValue(one);
         int slot = now.slotAt[place];
-        for (int other = 0; slot != NONE && other < PLACES; other++) {
-            if (now.isIn(now.readMask[slot], other)) {
-                scribe.page.append("; ");
-                scribe.page.append(other);
-                scribe.page.append(':');
-                now.fetch(other, one);
-                scribe.writeValue(one);
-            }
+        long mask = slot == NONE ? 0L : now.readMask[slot];
+        for (int other = now.nextOf(mask, 0); other < PLACES; other = now.nextOf(mask, other + 1)) {
+            scribe.page.append("; ");
+            scribe.page.append(other);
+            scribe.page.append(':');
+            now.fetch(other, one);
+            scribe.writeValue(one);
         }
     }
 
     private void writePlaces(long mask) {
+        Sheets now = now();
         boolean isFirst = true;
-        for (int place = 0; place < PLACES; place++) {
-            if (now().isIn(mask, place)) {
-                if (!isFirst) {
-                    scribe.page.append(' ');
-                }
-                scribe.page.append(place);
-                isFirst = false;
+        for (int place = now.nextOf(mask, 0); place < PLACES; place = now.nextOf(mask, place + 1)) {
+            if (!isFirst) {
+                scribe.page.append(' ');
             }
+            scribe.page.append(place);
+            isFirst = false;
         }
     }
 
@@ -1596,6 +1594,25 @@ public final class Sheetengine {
             return slot != NONE && (mask >> slot & 1) != 0;
         }
 
+        /** The first PLACE from one on with a CELL of a set; PLACES if there is none. */
+        int nextOf(long mask, int from) {
+            int place = mask == 0L ? PLACES : Math.max(0, from);
+            while (place < PLACES && !isIn(mask, place)) {
+                place++;
+            }
+            return place;
+        }
+
+        /** The first PLACE from one on with a CELL of an AREA; one behind its last if there is none. */
+        int nextIn(int first, int last, int from) {
+            int end = Math.min(last, PLACES - 1);
+            int place = Math.max(0, from);
+            while (place <= end && (slotAt[place] == NONE || !isWithin(first, last, place))) {
+                place++;
+            }
+            return place;
+        }
+
         /** Whether the VALUE at a PLACE is alike with the one there in another state. */
         boolean isAlikeAt(int place, Sheets other) {
             int slot = slotOf(place);
@@ -1807,7 +1824,7 @@ public final class Sheetengine {
                 hangMask[slot] = readMask[slot];
             }
             for (int over = 0; over < SLOTS; over++) {
-                for (int slot = 0; slot < SLOTS; slot++) {
+                for (int slot = 0; slot < SLOTS && hangMask[over] != 0; slot++) {
                     hangMask[slot] |= (hangMask[slot] >> over & 1) != 0 ? hangMask[over] : 0L;
                 }
             }
@@ -1824,9 +1841,11 @@ public final class Sheetengine {
 
         /** All formulas that READ a PLACE, be it EMPTY or not. */
         long readersOf(int place) {
+            int read = slotOf(place);
             long mask = 0L;
             for (int slot = 0; slot < SLOTS; slot++) {
-                mask |= readsPlace(slot, place) ? 1L << slot : 0L;
+                boolean is = read == NONE ? readsPlace(slot, place) : (readMask[slot] >> read & 1) != 0;
+                mask |= is ? 1L << slot : 0L;
             }
             return mask;
         }
@@ -1854,9 +1873,10 @@ public final class Sheetengine {
             int first = cornerRead(token, false);
             int last = cornerRead(token, true);
             long mask = 0L;
-            for (int slot = 0; slot < SLOTS && first != NONE; slot++) {
-                boolean is = placeOf[slot] != NONE && isWithin(first, last, placeOf[slot]);
-                mask |= is ? 1L << slot : 0L;
+            if (first != NONE) {
+                for (int place = nextIn(first, last, first); place <= last; place = nextIn(first, last, place + 1)) {
+                    mask |= 1L << slotAt[place];
+                }
             }
             return mask;
         }
@@ -1873,15 +1893,21 @@ public final class Sheetengine {
             return isLast ? Token.lastOf(token) : Token.firstOf(token);
         }
 
-        /** What a CELL READS HANGS ON fewer CELLS than it does, if it is on no RING: so those come first. */
+        /** A LEVEL is known as soon as those of all CELLS that it stands on are; a pass finds one more at least. */
         private void findLevels() {
+            long known = 0L;
+            boolean isMore = true;
             for (int slot = 0; slot < SLOTS; slot++) {
                 level[slot] = NONE;
             }
-            for (int many = 0; many < SLOTS; many++) {
+            for (int pass = 0; pass < SLOTS && isMore; pass++) {
+                isMore = false;
                 for (int slot = 0; slot < SLOTS; slot++) {
-                    if (placeOf[slot] != NONE && Long.bitCount(hangMask[slot]) == many && !isRinged(slot)) {
+                    boolean isDue = placeOf[slot] != NONE && (known >> slot & 1) == 0 && (readMask[slot] & ~known) == 0;
+                    if (isDue) {
                         level[slot] = greatestLevelIn(readMask[slot]) + 1;
+                        known |= 1L << slot;
+                        isMore = true;
                     }
                 }
             }
@@ -1889,7 +1915,7 @@ public final class Sheetengine {
 
         private int greatestLevelIn(long mask) {
             int result = NONE;
-            for (int slot = 0; slot < SLOTS; slot++) {
+            for (int slot = 0; slot < SLOTS && mask >> slot != 0; slot++) {
                 result = (mask >> slot & 1) != 0 ? Math.max(result, level[slot]) : result;
             }
             return result;
@@ -2286,7 +2312,7 @@ public final class Sheetengine {
                 boolean isSettled = place != NONE && (after.tokenMany[slot] == 0 || after.isRinged(slot));
                 changed |= isSettled && !after.isAlikeAt(place, before) ? 1L << slot : 0L;
                 int old = before.placeOf[slot];
-                if (old != NONE && after.slotAt[old] == NONE) {
+                if (old != NONE && after.slotAt[old] == NONE && leftMany < left.length) {
                     left[leftMany] = old;
                     leftMany++;
                 }
@@ -2505,14 +2531,13 @@ public final class Sheetengine {
             int first = area.part[0];
             int last = area.part[1];
             slate.total.setWhole(0L);
-            for (int place = first; place <= last; place++) {
-                int kind = isWithin(first, last, place) ? sheets.kindAt(place) : EMPTY;
-                if (kind == FAULT) {
-                    sheets.fetch(place, area);
+            for (int place = sheets.nextIn(first, last, first); place <= last; place = sheets.nextIn(first, last, place + 1)) {
+                sheets.fetch(place, now);
+                if (now.kind == FAULT) {
+                    area.copy(now);
                     return;
                 }
-                if (kind == NUMBER) {
-                    sheets.fetch(place, now);
+                if (now.kind == NUMBER) {
                     slate.load(now, slate.other);
                     slate.add(slate.total, slate.other);
                 }
@@ -2527,14 +2552,13 @@ public final class Sheetengine {
             int first = area.part[0];
             int last = area.part[1];
             area.setFault(MISSED);
-            for (int place = first; place <= last; place++) {
-                int kind = isWithin(first, last, place) ? sheets.kindAt(place) : EMPTY;
-                if (kind == FAULT) {
-                    sheets.fetch(place, area);
+            for (int place = sheets.nextIn(first, last, first); place <= last; place = sheets.nextIn(first, last, place + 1)) {
+                sheets.fetch(place, now);
+                if (now.kind == FAULT) {
+                    area.copy(now);
                     return;
                 }
-                if (kind == NUMBER) {
-                    sheets.fetch(place, now);
+                if (now.kind == NUMBER) {
                     int order = area.kind == NUMBER ? slate.order(now, area) : 0;
                     boolean isFurther = area.kind != NUMBER || (isLeast ? order < 0 : order > 0);
                     if (isFurther) {
@@ -2551,8 +2575,8 @@ public final class Sheetengine {
             int first = area.part[0];
             int last = area.part[1];
             int many = 0;
-            for (int place = first; place <= last; place++) {
-                many += isWithin(first, last, place) && sheets.kindAt(place) == NUMBER ? 1 : 0;
+            for (int place = sheets.nextIn(first, last, first); place <= last; place = sheets.nextIn(first, last, place + 1)) {
+                many += sheets.kindAt(place) == NUMBER ? 1 : 0;
             }
             area.setWhole(many);
         }
@@ -2565,9 +2589,9 @@ public final class Sheetengine {
             int first = area.part[0];
             int last = area.part[1];
             int many = 0;
-            for (int place = first; place <= last; place++) {
+            for (int place = sheets.nextIn(first, last, first); place <= last; place = sheets.nextIn(first, last, place + 1)) {
                 sheets.fetch(place, now);
-                many += isWithin(first, last, place) && now.isAlike(sought) ? 1 : 0;
+                many += now.isAlike(sought) ? 1 : 0;
             }
             area.setWhole(many);
         }
