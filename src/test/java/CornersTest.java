@@ -16,6 +16,8 @@ public final class CornersTest {
         takenOutAtTheBegin();
         notIntoTheNext();
         putInAtTheEnd();
+        readersOfFirst();
+        anyTwoCorners();
         digestAtCorners();
         Check.end();
     }
@@ -225,6 +227,59 @@ public final class CornersTest {
                 Check.due("undone", isLastRow ? "1" : x.undo() + x.value(p), isLastRow ? "1" : x.house(7) + "1");
                 Check.due("putIn of the first column in the sheet " + sheet + " with " + p, x.putIn(sheet, true, 0), isLastColumn ? -9 : isOwn ? 1 : 0);
                 Check.due("where it is", x.value(isOwn && !isLastColumn ? p + 1 : p), "1");
+            }
+        }
+    }
+
+    /** The first PLACE of a SHEET as a place, as both corners of an area and as a name, when it moves or is lost. */
+    private static void readersOfFirst() {
+        for (int sheet = 0; sheet < 2; sheet++) {
+            for (boolean isColumn : new boolean[] {false, true}) {
+                int first = sheet * 240;
+                int second = first + (isColumn ? 1 : 8);
+                String a0 = sheet == 0 ? "a0" : "1:a0";
+                String out = sheet == 0 ? "1:c5" : "c5";
+                Sheetengine x = new Sheetengine();
+                x.number(first, 7, 1);
+                x.name(0, first, first);
+                Check.enter(x, out, a0 + "+sum(" + a0 + "..a0)*10+sum(n0)*100");
+                Check.due("value", x.value(at(out)), "777");
+                String told = "sheet " + sheet + (isColumn ? ", column" : ", row");
+                Check.due("putIn, " + told, x.putIn(sheet, isColumn, 0), 1);
+                Check.due("value behind putIn, " + told, x.value(at(out)), "777");
+                Check.due("what it reads, " + told, x.reads(at(out), false) + " " + x.reads(second, true), second + " " + at(out));
+                String of = (sheet == 0 ? "0:" : "1:") + (isColumn ? "b0" : "a1");
+                Check.due("formula, " + told, x.formula(at(out)), "=" + of + "+sum(" + of + ".." + of.substring(2) + ")*10+sum(n0)*100");
+                x.takeOut(sheet, isColumn, 0);
+                Check.due("value behind takeOut, " + told, x.value(at(out)), "777");
+                x.takeOut(sheet, isColumn, 0);
+                Check.due("all lost, " + told, x.formula(at(out)) + " " + x.house(5), "=gone+sum(gone)*10+sum(n0)*100 0");
+            }
+        }
+    }
+
+    /** An AREA is told by any two opposite corners. */
+    private static void anyTwoCorners() {
+        String[][] corners = {{"b1", "d3"}, {"d3", "b1"}, {"b3", "d1"}, {"d1", "b3"}};
+        for (String[] c : corners) {
+            for (int sheet = 0; sheet < 2; sheet++) {
+                int one = at(c[0]) + 240 * sheet;
+                int other = at(c[1]) + 240 * sheet;
+                Sheetengine x = new Sheetengine();
+                x.token(4, one, other, 2);
+                Check.due("text of the area", x.input(), (sheet == 0 ? "" : "1:") + "$b1..$d3");
+                x.rub(1);
+                x.number(240 * sheet, 1, 1);
+                Check.due("fill", x.fill(240 * sheet, one, other), 9);
+                x.name(3, one, other);
+                Check.enter(x, "h0", "count(n3)&sum(n3)");
+                Check.due("what is filled and named", x.value(7), "99");
+                Check.due("what a name reads", x.reads(7, false).startsWith((9 + 240 * sheet) + " "), true);
+                Check.due("the first row of it", Check.valueOf(x, "look(1,n3,3)&countif(n3,1)"), "19");
+                x.putIn(sheet, false, 1);
+                Check.due("what it is of behind putIn", x.reads(7, false).startsWith((17 + 240 * sheet) + " "), true);
+                x.takeOut(sheet, false, 4);
+                Check.due("what it is of behind takeOut", x.value(7), "66");
             }
         }
     }

@@ -3,6 +3,9 @@ import com.sun.source.tree.CatchTree;
 import com.sun.source.tree.ClassTree;
 import com.sun.source.tree.CompilationUnitTree;
 import com.sun.source.tree.CompoundAssignmentTree;
+import com.sun.source.tree.DoWhileLoopTree;
+import com.sun.source.tree.ExpressionTree;
+import com.sun.source.tree.ForLoopTree;
 import com.sun.source.tree.ImportTree;
 import com.sun.source.tree.LambdaExpressionTree;
 import com.sun.source.tree.MemberReferenceTree;
@@ -13,6 +16,7 @@ import com.sun.source.tree.ThrowTree;
 import com.sun.source.tree.Tree;
 import com.sun.source.tree.TryTree;
 import com.sun.source.tree.VariableTree;
+import com.sun.source.tree.WhileLoopTree;
 import com.sun.source.util.JavacTask;
 import com.sun.source.util.SourcePositions;
 import com.sun.source.util.TreePath;
@@ -29,6 +33,8 @@ import java.util.TreeSet;
 import javax.lang.model.element.Element;
 import javax.lang.model.element.ElementKind;
 import javax.lang.model.element.Modifier;
+import javax.lang.model.element.VariableElement;
+import javax.lang.model.type.ArrayType;
 import javax.lang.model.type.TypeMirror;
 import javax.tools.JavaCompiler;
 import javax.tools.StandardJavaFileManager;
@@ -49,6 +55,7 @@ public final class LanguageTest {
             "AbstractStringBuilder.charAt", "AbstractStringBuilder.setLength", "CharSequence.length",
             "Math.min", "Math.max", "Math.abs", "Integer.compare", "Long.compare", "Long.bitCount", "System.arraycopy");
     private static final Set<String> MADE = Set.of("StringBuilder", "IllegalArgumentException", "IllegalStateException");
+    private static final Set<String> TYPES = Set.of("int", "long", "boolean", "char", "String", "StringBuilder");
     private static int wrong = 0;
 
     private static final Map<Element, Set<Element>> CALLS = new HashMap<>();
@@ -184,6 +191,48 @@ public final class LanguageTest {
             }
 
             @Override
+            public Void visitVariable(VariableTree tree, Void none) {
+                VariableElement variable = (VariableElement) trees.getElement(getCurrentPath());
+                boolean isStatic = tree.getModifiers().getFlags().contains(Modifier.STATIC);
+                due(!isStatic || variable.getConstantValue() != null, where(tree) + tree.getName() + " is static, but no constant");
+                due(isType(variable.asType()), where(tree) + variable.asType() + " is no type of the language");
+                return super.visitVariable(tree, none);
+            }
+
+            /** Primitive types, texts and own classes, and rows of them; the class needs no other ones. */
+            private boolean isType(TypeMirror type) {
+                if (type instanceof ArrayType row) {
+                    return !(row.getComponentType() instanceof ArrayType) && isType(row.getComponentType());
+                }
+                String name = type.toString();
+                return name.startsWith("Sheetengine.") || TYPES.contains(name.substring(name.lastIndexOf('.') + 1));
+            }
+
+            @Override
+            public Void visitWhileLoop(WhileLoopTree tree, Void none) {
+                loop(tree, tree.getCondition());
+                return super.visitWhileLoop(tree, none);
+            }
+
+            @Override
+            public Void visitDoWhileLoop(DoWhileLoopTree tree, Void none) {
+                loop(tree, tree.getCondition());
+                return super.visitDoWhileLoop(tree, none);
+            }
+
+            @Override
+            public Void visitForLoop(ForLoopTree tree, Void none) {
+                loop(tree, tree.getCondition());
+                return super.visitForLoop(tree, none);
+            }
+
+            /** The end of a loop stands in its own lines: a bound that something is less or greater than. */
+            private void loop(Tree tree, ExpressionTree condition) {
+                String told = condition == null ? "" : condition.toString();
+                due(told.contains("<") || told.contains(">"), where(tree) + "a loop without a bound: " + told);
+            }
+
+            @Override
             public Void visitMethodInvocation(MethodInvocationTree tree, Void none) {
                 called(trees.getElement(getCurrentPath()), tree);
                 return super.visitMethodInvocation(tree, none);
@@ -192,6 +241,8 @@ public final class LanguageTest {
             @Override
             public Void visitNewClass(NewClassTree tree, Void none) {
                 Element made = trees.getElement(getCurrentPath());
+                due(inside == null || inside.getKind() == ElementKind.CONSTRUCTOR || made == null || !isOwn(made),
+                        where(tree) + "makes an object in a call");
                 if (made != null && isOwn(made)) {
                     called(made, tree);
                 } else {

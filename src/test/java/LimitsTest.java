@@ -15,6 +15,7 @@ public final class LimitsTest {
         longGoals();
         longOfOthers();
         shownLong();
+        tens();
         signs();
         signOrder();
         tokens();
@@ -178,6 +179,34 @@ public final class LimitsTest {
         x.form(at("d1"), 3);
         Check.due("what is rounded to 0 has no sign", x.shown(at("d0")), "0.000");
         Check.due("what is rounded to 1", x.shown(at("d1")), "1.000");
+    }
+
+    /** 10 to the 0 and so on, down the columns a and b: no digit is lost in a text, and none comes. */
+    private static void tens() {
+        Sheetengine x = new Sheetengine();
+        x.number(at("a0"), 1, 1);
+        Check.enter(x, "a1", "a0*10");
+        x.fill(at("a1"), at("a2"), at("a29"));
+        Check.enter(x, "b0", "a29*10");
+        Check.enter(x, "b1", "b0*10");
+        x.fill(at("b1"), at("b2"), at("b7"));
+        Check.due("10 to the 37 is too long", x.value(at("b7")), "#long");
+        x.form(at("c0"), 1);
+        for (int k = 1; k <= 35; k++) {
+            String place = k < 30 ? "a" + k : "b" + (k - 30);
+            String zeros = "0".repeat(k);
+            String more = "1" + "0".repeat(k - 1) + "1";
+            Check.due("10 to the " + k, x.value(at(place)), "1" + zeros);
+            String[][] due = {{place + "-1", "9".repeat(k), "9".repeat(k) + ".0"}, {"-" + place + "-1", "-" + more, "-" + more + ".0"},
+                {"1/" + place, "1/1" + zeros, k == 1 ? "0.1" : "0.0"}, {"-(" + place + "+1)/" + place, "-" + more + "/1" + zeros, k == 1 ? "-1.1" : "-1.0"},
+                {place + "/10", "1" + "0".repeat(k - 1), "1" + "0".repeat(k - 1) + ".0"}, {place + "&c5", k < 20 ? "1" + zeros : "#long", k < 20 ? "1" + zeros : "#long"}};
+            for (String[] d : due) {
+                Check.enter(x, "c0", d[0]);
+                Check.due(d[0], x.value(at("c0")), d[1]);
+                Check.due(d[0] + ", shown", x.shown(at("c0")), d[2]);
+            }
+        }
+        Check.due("10 to the 36", x.value(at("b6")), "1" + "0".repeat(36));
     }
 
     private static void signs() {

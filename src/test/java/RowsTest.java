@@ -131,6 +131,7 @@ public final class RowsTest {
         Check.due("an empty place", x.whatIf(5, 6, 5, 1, 3), "  ");
         Check.due("one", x.whatIf(5, 5, 7, 1, 1), "7");
         Check.due("far", x.whatIf(5, 5, 9999, 9999, 8), "9999 19998 29997 39996 49995 59994 69993 79992");
+        Check.due("far below", x.whatIf(5, 5, -9999, -9999, 8), "-9999 -19998 -29997 -39996 -49995 -59994 -69993 -79992");
         Check.due("nothing is changed", x.value(0) + x.house(7) + x.house(0), "933");
         Check.due("nor what was reckoned", x.reckoned(), "1 2");
         x.guard(0, true);
