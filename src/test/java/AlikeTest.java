@@ -207,5 +207,17 @@ public final class AlikeTest {
         Check.due("value", x.value(at("d0")) + x.value(at("e0")), "1w1#kind");
         x.text(at("c0"), 5);
         Check.due("all that hangs on it", x.reckoned(), "1 3");
+        x.number(at("g1"), 1, 1);
+        x.number(at("g2"), 2, 1);
+        x.number(at("h2"), 2, 1);
+        Check.enter(x, "h1", "g1");
+        Check.enter(x, "f1", "h2");
+        x.fill(at("h1"), at("h2"), at("h2"));
+        Check.due("filled with another formula for what is alike", x.formula(at("h2")) + " " + x.reckoned(), "=g2 23");
+        x.number(at("g3"), 3, 1);
+        x.fill(at("h1"), at("h2"), at("h3"));
+        Check.due("filled with the same and a new one", x.reckoned(), "23 31");
+        x.number(at("g2"), 4, 1);
+        Check.due("one that is unlike goes on", x.reckoned(), "13 23");
     }
 }

@@ -138,6 +138,8 @@ public final class LimitsTest {
         Check.due("a bottom of 120 digits", x.goal(at("c1"), at("c0"), 1, 1), "1/" + MOST);
         Check.due("a bottom of 121 digits", x.goal(at("c1"), at("c0"), 1, 2), "-9");
         Check.due("nothing changed", x.value(at("c1")), "1/" + MOST);
+        Check.enter(x, "c0", "if(isfault(c1),2,c1/b0)");
+        Check.due("x that is long is not tried", x.goal(at("c1"), at("c0"), 2, 1) + x.value(at("c1")), "-91/" + MOST);
         Check.enter(x, "c0", "c1+b1");
         Check.due("what is on the way may be long", x.goal(at("c1"), at("c0"), 7, 1), "-" + less(8));
         Check.enter(x, "c0", "c1+b0");
