@@ -706,24 +706,28 @@ public final class Sheetengine {
         scribe.writeValue(one);
         int slot = now.slotAt[place];
         long mask = slot == NONE ? 0L : now.readMask[slot];
-        for (int other = now.nextOf(mask, 0); other < PLACES; other = now.nextOf(mask, other + 1)) {
-            scribe.page.append("; ");
-            scribe.page.append(other);
-            scribe.page.append(':');
-            now.fetch(other, one);
-            scribe.writeValue(one);
+        for (int other = 0; other < PLACES && mask != 0; other++) {
+            if (now.isIn(mask, other)) {
+                scribe.page.append("; ");
+                scribe.page.append(other);
+                scribe.page.append(':');
+                now.fetch(other, one);
+                scribe.writeValue(one);
+            }
         }
     }
 
     private void writePlaces(long mask) {
         Sheets now = now();
         boolean isFirst = true;
-        for (int place = now.nextOf(mask, 0); place < PLACES; place = now.nextOf(mask, place + 1)) {
-            if (!isFirst) {
-                scribe.page.append(' ');
+        for (int place = 0; place < PLACES && mask != 0; place++) {
+            if (now.isIn(mask, place)) {
+                if (!isFirst) {
+                    scribe.page.append(' ');
+                }
+                scribe.page.append(place);
+                isFirst = false;
             }
-            scribe.page.append(place);
-            isFirst = false;
         }
     }
 
@@ -1594,23 +1598,9 @@ public final class Sheetengine {
             return slot != NONE && (mask >> slot & 1) != 0;
         }
 
-        /** The first PLACE from one on with a CELL of a set; PLACES if there is none. */
-        int nextOf(long mask, int from) {
-            int place = mask == 0L ? PLACES : Math.max(0, from);
-            while (place < PLACES && !isIn(mask, place)) {
-                place++;
-            }
-            return place;
-        }
-
-        /** The first PLACE from one on with a CELL of an AREA; one behind its last if there is none. */
-        int nextIn(int first, int last, int from) {
-            int end = Math.min(last, PLACES - 1);
-            int place = Math.max(0, from);
-            while (place <= end && (slotAt[place] == NONE || !isWithin(first, last, place))) {
-                place++;
-            }
-            return place;
+        /** Whether a CELL of an AREA stands at a PLACE. */
+        boolean hasCell(int first, int last, int place) {
+            return slotOf(place) != NONE && isWithin(first, last, place);
         }
 
         /** Whether the VALUE at a PLACE is alike with the one there in another state. */
@@ -1873,10 +1863,8 @@ public final class Sheetengine {
             int first = cornerRead(token, false);
             int last = cornerRead(token, true);
             long mask = 0L;
-            if (first != NONE) {
-                for (int place = nextIn(first, last, first); place <= last; place = nextIn(first, last, place + 1)) {
-                    mask |= 1L << slotAt[place];
-                }
+            for (int place = first; place <= last && first != NONE; place++) {
+                mask |= hasCell(first, last, place) ? 1L << slotAt[place] : 0L;
             }
             return mask;
         }
@@ -2531,7 +2519,10 @@ public final class Sheetengine {
             int first = area.part[0];
             int last = area.part[1];
             slate.total.setWhole(0L);
-            for (int place = sheets.nextIn(first, last, first); place <= last; place = sheets.nextIn(first, last, place + 1)) {
+            for (int place = first; place <= last; place++) {
+                if (!sheets.hasCell(first, last, place)) {
+                    continue;
+                }
                 sheets.fetch(place, now);
                 if (now.kind == FAULT) {
                     area.copy(now);
@@ -2552,7 +2543,10 @@ public final class Sheetengine {
             int first = area.part[0];
             int last = area.part[1];
             area.setFault(MISSED);
-            for (int place = sheets.nextIn(first, last, first); place <= last; place = sheets.nextIn(first, last, place + 1)) {
+            for (int place = first; place <= last; place++) {
+                if (!sheets.hasCell(first, last, place)) {
+                    continue;
+                }
                 sheets.fetch(place, now);
                 if (now.kind == FAULT) {
                     area.copy(now);
@@ -2575,8 +2569,8 @@ public final class Sheetengine {
             int first = area.part[0];
             int last = area.part[1];
             int many = 0;
-            for (int place = sheets.nextIn(first, last, first); place <= last; place = sheets.nextIn(first, last, place + 1)) {
-                many += sheets.kindAt(place) == NUMBER ? 1 : 0;
+            for (int place = first; place <= last; place++) {
+                many += sheets.hasCell(first, last, place) && sheets.kindAt(place) == NUMBER ? 1 : 0;
             }
             area.setWhole(many);
         }
@@ -2589,9 +2583,11 @@ public final class Sheetengine {
             int first = area.part[0];
             int last = area.part[1];
             int many = 0;
-            for (int place = sheets.nextIn(first, last, first); place <= last; place = sheets.nextIn(first, last, place + 1)) {
-                sheets.fetch(place, now);
-                many += now.isAlike(sought) ? 1 : 0;
+            for (int place = first; place <= last; place++) {
+                if (sheets.hasCell(first, last, place)) {
+                    sheets.fetch(place, now);
+                    many += now.isAlike(sought) ? 1 : 0;
+                }
             }
             area.setWhole(many);
         }

@@ -5,6 +5,7 @@ import com.sun.source.tree.CompilationUnitTree;
 import com.sun.source.tree.CompoundAssignmentTree;
 import com.sun.source.tree.DoWhileLoopTree;
 import com.sun.source.tree.ExpressionTree;
+import com.sun.source.tree.ExpressionStatementTree;
 import com.sun.source.tree.ForLoopTree;
 import com.sun.source.tree.ImportTree;
 import com.sun.source.tree.LambdaExpressionTree;
@@ -15,12 +16,14 @@ import com.sun.source.tree.NewClassTree;
 import com.sun.source.tree.ThrowTree;
 import com.sun.source.tree.Tree;
 import com.sun.source.tree.TryTree;
+import com.sun.source.tree.UnaryTree;
 import com.sun.source.tree.VariableTree;
 import com.sun.source.tree.WhileLoopTree;
 import com.sun.source.util.JavacTask;
 import com.sun.source.util.SourcePositions;
 import com.sun.source.util.TreePath;
 import com.sun.source.util.TreePathScanner;
+import com.sun.source.util.TreeScanner;
 import com.sun.source.util.Trees;
 import java.io.File;
 import java.util.ArrayList;
@@ -210,26 +213,48 @@ public final class LanguageTest {
 
             @Override
             public Void visitWhileLoop(WhileLoopTree tree, Void none) {
-                loop(tree, tree.getCondition());
+                loop(tree, tree.getCondition(), tree.getStatement());
                 return super.visitWhileLoop(tree, none);
             }
 
             @Override
             public Void visitDoWhileLoop(DoWhileLoopTree tree, Void none) {
-                loop(tree, tree.getCondition());
+                loop(tree, tree.getCondition(), tree.getStatement());
                 return super.visitDoWhileLoop(tree, none);
             }
 
             @Override
             public Void visitForLoop(ForLoopTree tree, Void none) {
-                loop(tree, tree.getCondition());
+                due(tree.getUpdate().size() == 1, where(tree) + "a for without its one step");
+                for (ExpressionStatementTree update : tree.getUpdate()) {
+                    loop(tree, tree.getCondition(), update);
+                }
                 return super.visitForLoop(tree, none);
             }
 
-            /** The end of a loop stands in its own lines: a bound that something is less or greater than. */
-            private void loop(Tree tree, ExpressionTree condition) {
+            /** The end of a loop stands in its own lines: a counter that is stepped there, against a bound. */
+            private void loop(Tree tree, ExpressionTree condition, Tree steps) {
                 String told = condition == null ? "" : condition.toString();
-                due(told.contains("<") || told.contains(">"), where(tree) + "a loop without a bound: " + told);
+                boolean[] has = new boolean[1];
+                new TreeScanner<Void, Void>() {
+                    @Override
+                    public Void visitUnary(UnaryTree step, Void none) {
+                        boolean isStep = step.getKind() != Tree.Kind.LOGICAL_COMPLEMENT && step.getKind() != Tree.Kind.UNARY_MINUS;
+                        has[0] |= isStep && isBounded(told, step.getExpression().toString());
+                        return super.visitUnary(step, none);
+                    }
+
+                    @Override
+                    public Void visitCompoundAssignment(CompoundAssignmentTree step, Void none) {
+                        has[0] |= isBounded(told, step.getVariable().toString());
+                        return super.visitCompoundAssignment(step, none);
+                    }
+                }.scan(steps, null);
+                due(has[0], where(tree) + "a loop without a counter against a bound: " + told);
+            }
+
+            private boolean isBounded(String condition, String counter) {
+                return condition.matches(".*\\b" + counter + " [<>].*");
             }
 
             @Override
